@@ -33,7 +33,9 @@ public final class PromiseTests {
         promise13Ticks();
         promise14Dose();
         promise14DoseWhy();
+        promise14DoseX();
         promise14DoseWhyHeld();
+        promise14DoseWhyByOnePart();
         promise15Doses();
         promise16Last();
         Due.end();
@@ -109,6 +111,9 @@ public final class PromiseTests {
         Due.is("2: before the replaced one", desk.value(2, 299), 12);
         Due.is("2: the replaced one", desk.value(2, 300), 77);
         Due.is("2: behind the replaced one", desk.value(2, 400), 14);
+        Due.is("2: the first of eight is replaced", desk.slot(2, 0, 66), true);
+        Due.is("2: the replaced first one", desk.value(2, 99), 66);
+        Due.is("2: the last one stays", desk.value(2, 1439), 17);
         Due.is("2: kinds are apart", desk.slot(3, 800, 99), true);
     }
 
@@ -646,6 +651,34 @@ public final class PromiseTests {
         Due.is("14: no dose at all", desk.dose(9, 5), 1);
     }
 
+    private static void promise14DoseX() {
+        PumpDesk desk = new PumpDesk();
+        int[] readings = {99, 100, 101, 119, 120, 121};
+        int[] wants = {-20, 0, 0, 0, 0, 20};
+        for (int k = 0; k < readings.length; k++) {
+            desk.reading(0, readings[k]);
+            desk.give(0, 0);
+            Due.is("14: X of " + readings[k], desk.dose(k, 3), wants[k]);
+        }
+        desk.give(0, 10);
+        desk.give(0, 10);
+        Due.is("14: X when more is at work", desk.dose(7, 3), 0);
+        desk.slot(1, 0, 3);
+        desk.reading(0, 99);
+        desk.give(0, 10);
+        Due.is("14: X rounded up from a third", desk.dose(8, 3), -334);
+        desk.slot(1, 0, 8);
+        desk.give(0, 10);
+        Due.is("14: X with nothing to round", desk.dose(9, 3), -125);
+        desk.slot(2, 0, 200);
+        desk.slot(3, 0, 100);
+        desk.reading(0, 100);
+        desk.give(0, 0);
+        Due.is("14: X at a greatest that is below the least", desk.dose(10, 3), -12500);
+        desk.give(16, 0);
+        Due.is("14: X without a fresh reading", desk.dose(11, 3), 0);
+    }
+
     private static void promise14DoseWhyHeld() {
         PumpDesk desk = new PumpDesk();
         desk.reading(0, 70);
@@ -660,6 +693,27 @@ public final class PromiseTests {
         desk.limits(0, 0, 70, 2);
         desk.give(0, 40);
         Due.is("14: held comes last", desk.dose(4, 5), 3);
+    }
+
+    /** A reading of 121 wants a single part here: rounding hides it, but the reason tells. */
+    private static void promise14DoseWhyByOnePart() {
+        PumpDesk desk = new PumpDesk();
+        desk.slot(1, 0, 1000);
+        desk.reading(0, 121);
+        desk.give(0, 100);
+        dueDose("14: a part above the greatest dose at first", desk, 0, 0, 10000, 10000, 1, 0, 1);
+        PumpDesk ofDay = new PumpDesk();
+        ofDay.slot(1, 0, 1000);
+        for (int k = 0; k < 5; k++) {
+            Due.is("14: a fifth of the day at first", ofDay.give(0, 100), 10000);
+        }
+        ofDay.reading(500, 121);
+        ofDay.give(500, 0);
+        dueDose("14: nothing is left for a part", ofDay, 5, 500, 0, 0, 1, 0, 2);
+        ofDay.reading(500, 70);
+        ofDay.reading(500, 121);
+        ofDay.give(500, 0);
+        dueDose("14: a part of a held pump", ofDay, 6, 500, 0, 0, 1, 0, 3);
     }
 
     private static void promise15Doses() {
