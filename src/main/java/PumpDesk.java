@@ -173,10 +173,10 @@ public final class PumpDesk {
     }
 
     public int dose(int k, int what) {
-        if (!isWithin(k, 0, givenCount - 1)) {
+        Dose dose = isWithin(k, 0, MOST_DOSES - 1) ? given[k] : null;
+        if (dose == null) {
             return NONE;
         }
-        Dose dose = given[k];
         switch (what) {
             case 0: return dose.minute;
             case 1: return dose.parts;
@@ -212,8 +212,12 @@ public final class PumpDesk {
         return isWithin(minute, 0, MINUTES_OF_DAY - 1);
     }
 
-    private static int dividedUp(int number, int divisor) {
-        return (number + divisor - 1) / divisor;
+    /**
+     * Rounded down, so a negative amount is rounded away from 0, as the document asks below the
+     * least aim. No value is below 1 here, but a divisor is looked at where it divides.
+     */
+    private static int partsFor(int amount, int ofUnit) {
+        return ofUnit < 1 ? 0 : Math.floorDiv(amount * PARTS_OF_UNIT, ofUnit);
     }
 
     private boolean canGoOnTo(int minute) {
@@ -282,17 +286,19 @@ public final class PumpDesk {
 
     private int atWorkNow() {
         int sum = 0;
-        for (int k = 0; k < givenCount; k++) {
-            int age = (now - given[k].minute) / MINUTES_OF_SHARE;
-            if (age <= LAST_SHARE) {
-                sum += given[k].parts * shares[age] / WHOLE_SHARE;
-            }
+        for (int k = 0; k < MOST_DOSES && given[k] != null; k++) {
+            sum += atWorkNowOf(given[k]);
         }
         return sum;
     }
 
+    private int atWorkNowOf(Dose dose) {
+        int k = (now - dose.minute) / MINUTES_OF_SHARE;
+        return isWithin(k, 0, LAST_SHARE) ? dose.parts * shares[k] / WHOLE_SHARE : 0;
+    }
+
     private Dose wantedNow(int carbs) {
-        int meal = carbs * PARTS_OF_UNIT / valueNow(GRAMS_FOR_UNIT);
+        int meal = partsFor(carbs, valueNow(GRAMS_FOR_UNIT));
         int atWork = atWorkNow();
         int correction = correctionNow(atWork);
         int whole = Math.max(0, meal + correction);
@@ -312,9 +318,9 @@ public final class PumpDesk {
         int lowered = valueNow(LOWERED_BY_UNIT);
         // The least aim may stand above the greatest one: the document asks for "above" first.
         if (above > 0) {
-            return Math.max(0, above * PARTS_OF_UNIT / lowered - atWork);
+            return Math.max(0, partsFor(above, lowered) - atWork);
         }
-        return below > 0 ? -dividedUp(below * PARTS_OF_UNIT, lowered) : 0;
+        return below > 0 ? partsFor(-below, lowered) : 0;
     }
 
     private boolean hasFreshReading() {
