@@ -6,7 +6,11 @@ final class Due {
     }
 
     static void is(String call, long got, long want) {
-        if (got != want) {
+        is(call, String.valueOf(got), String.valueOf(want));
+    }
+
+    static void is(String call, String got, String want) {
+        if (!got.equals(want)) {
             wrong++;
             System.out.println(call + " answered " + got + ", due is " + want);
         }
